@@ -257,7 +257,7 @@ public final class CloudBeams {
             case 5:
                 return sky.seenSpots(sky.settings[HAZE]);
             case 6:
-                return sky.pairs();
+                return Integer.bitCount(sky.pairLayers());
             case 7:
                 return sky.closePairs();
             case 8:
@@ -518,7 +518,7 @@ public final class CloudBeams {
 
         static int throughHaze(int strength, int haze, int way) {
             long loss = (long) strength * haze * way / HAZE_DIVISOR;
-            return strength - (int) Math.min(loss, strength);
+            return loss < strength ? strength - (int) loss : 0;
         }
 
         static int brightness(int strength, int thickness) {
@@ -537,8 +537,25 @@ public final class CloudBeams {
             return throughHaze(strength, settings[HAZE], heights[layer] - height);
         }
 
-        boolean isSeen(int layer) {
-            return brightness(strengthAt(layer), thicknesses[layer]) >= settings[LEAST_BRIGHTNESS];
+        /** A bit for each layer on which a beam's spot is seen, whichever the light. */
+        int seenLayers(int haze) {
+            int strength = FULL_STRENGTH;
+            int height = 0;
+            int seen = 0;
+            for (int i = 0; i < layers; i++) {
+                strength = throughHaze(strength, haze, heights[i] - height);
+                int brightness = brightness(strength, thicknesses[i]);
+                if (brightness >= settings[LEAST_BRIGHTNESS]) {
+                    seen |= 1 << i;
+                }
+                strength -= brightness;
+                height = heights[i];
+            }
+            return seen;
+        }
+
+        int seenSpots(int haze) {
+            return Integer.bitCount(seenLayers(haze)) * Integer.bitCount(litMask);
         }
 
         int spotNumber(int light, int layer, int what) {
@@ -550,7 +567,7 @@ public final class CloudBeams {
                 case 1:
                     return brightness;
                 case 2:
-                    return isSeen(layer) ? 1 : 0;
+                    return brightness >= settings[LEAST_BRIGHTNESS] ? 1 : 0;
                 case 3:
                     return strength;
                 default:
@@ -558,38 +575,17 @@ public final class CloudBeams {
             }
         }
 
-        int seenSpots(int haze) {
-            int strength = FULL_STRENGTH;
-            int height = 0;
-            int seen = 0;
-            for (int i = 0; i < layers; i++) {
-                strength = throughHaze(strength, haze, heights[i] - height);
-                int brightness = brightness(strength, thicknesses[i]);
-                if (brightness >= settings[LEAST_BRIGHTNESS]) {
-                    seen++;
-                }
-                strength -= brightness;
-                height = heights[i];
-            }
-            return seen * Integer.bitCount(litMask);
+        /** A bit for each layer with a pair. */
+        int pairLayers() {
+            return litMask == BOTH_LIT ? seenLayers(settings[HAZE]) : 0;
         }
 
         boolean hasPair(int layer) {
-            return litMask == BOTH_LIT && isSeen(layer);
+            return (pairLayers() >> layer & 1) == 1;
         }
 
         boolean hasClosePair(int layer) {
             return hasPair(layer) && Math.abs(distance(layer)) <= settings[CLOSENESS];
-        }
-
-        int pairs() {
-            int found = 0;
-            for (int i = 0; i < layers; i++) {
-                if (hasPair(i)) {
-                    found++;
-                }
-            }
-            return found;
         }
 
         int closePairs() {
@@ -603,14 +599,15 @@ public final class CloudBeams {
         }
 
         int layerOfReading(int slope0, int slope1) {
-            if (slope0 <= slope1) {
+            if (slope0 <= slope1 || litMask != BOTH_LIT) {
                 return NO_LAYER;
             }
+            int seen = seenLayers(settings[HAZE]);
             int found = NO_LAYER;
             int sizeBelow = settings[CLOSENESS] + 1;
             for (int i = 0; i < layers; i++) {
                 int size = Math.abs(distanceWith(i, slope0, slope1));
-                if (size < sizeBelow && hasPair(i)) {
+                if (size < sizeBelow && (seen >> i & 1) == 1) {
                     found = i;
                     sizeBelow = size;
                 }

@@ -6,7 +6,7 @@ import java.util.TreeMap;
 import java.util.regex.Matcher;
 import java.util.regex.Pattern;
 
-/** The document told a second time, with the Java library and without any care for speed: what CloudBeams is compared with. */
+/** The document told a second time, with the Java library and no care for speed: CloudBeams is compared with it. */
 final class Model {
     static final int NONE = -99999;
 
@@ -285,7 +285,9 @@ final class Model {
     }
 
     private static int seen(State s) {
-        return (int) (spots(s, 0).stream().filter(Spot::seen).count() + spots(s, 1).stream().filter(Spot::seen).count());
+        List<Spot> both = new ArrayList<>(spots(s, 0));
+        both.addAll(spots(s, 1));
+        return (int) both.stream().filter(Spot::seen).count();
     }
 
     /** Of each layer the distance of its pair, or null. */

@@ -1,9 +1,9 @@
 import java.util.Random;
 
-/** Many runs of up to 512 calls, each answer compared with the model's; the seeds are fixed, so every run is the same. */
+/** Many long runs of calls, each answer compared with the model's; the seeds are fixed, so every run is the same. */
 public final class ModelTest {
     private static final int RUNS = 1500;
-    private static final int CALLS = 512;
+    private static final int STEPS = 256;
     private static final String SIGNS = "cabxn*;-0123456789";
     private static final int[] ODD = {Integer.MIN_VALUE, -1000, -31, -1, 17, 61, 127, 1001, 3001, Integer.MAX_VALUE};
 
@@ -150,7 +150,8 @@ public final class ModelTest {
             case 14:
             case 15:
             case 16:
-                both(run + "scan(" + light + ", " + layer + ")", () -> m.scan(light, layer), () -> x.scan(light, layer));
+                both(run + "scan(" + light + ", " + layer + ")",
+                    () -> m.scan(light, layer), () -> x.scan(light, layer));
                 break;
             case 17:
             case 18:
@@ -237,7 +238,7 @@ public final class ModelTest {
             random = new Random(run);
             Model m = new Model();
             CloudBeams x = new CloudBeams();
-            for (int call = 1; call <= CALLS / 2; call++) {
+            for (int call = 1; call <= STEPS; call++) {
                 String name = "run " + run + ", step " + call + ": ";
                 change(name, m, x);
                 ask(name, m, x);
