@@ -6,8 +6,23 @@ final class Check {
 
     private static int wrong = 0;
     private static int checked = 0;
+    private static String sentence = "";
+    private static int checkedBeforeSentence = 0;
 
     private Check() {
+    }
+
+    /** The words of the document that the next checks stand for: they are told with each wrong answer. */
+    static void sentence(String words) {
+        endSentence();
+        sentence = words;
+        checkedBeforeSentence = checked;
+    }
+
+    private static void endSentence() {
+        if (!sentence.isEmpty() && checked == checkedBeforeSentence) {
+            tell("nothing was checked");
+        }
     }
 
     static void same(String call, long due, long got) {
@@ -56,14 +71,32 @@ final class Check {
         refuses(call, IllegalStateException.class, it);
     }
 
+    /** What a call answers, or the name of the exception that it throws. */
+    static String outcome(Call call) {
+        try {
+            return String.valueOf(call.answer());
+        } catch (RuntimeException e) {
+            return e.getClass().getSimpleName();
+        }
+    }
+
+    static void layers(String when, CloudBeams x, int... heightsAndThicknesses) {
+        same("the number of layers " + when, heightsAndThicknesses.length / 2, x.count(0));
+        for (int i = 0; i < heightsAndThicknesses.length / 2 && i < x.count(0); i++) {
+            same("the height of layer " + i + " " + when, heightsAndThicknesses[2 * i], x.layerOf(i, 0));
+            same("the thickness of layer " + i + " " + when, heightsAndThicknesses[2 * i + 1], x.layerOf(i, 1));
+        }
+    }
+
     private static void tell(String text) {
         wrong++;
         if (wrong <= 50) {
-            System.out.println(text);
+            System.out.println(sentence.isEmpty() ? text : "[" + sentence + "] " + text);
         }
     }
 
     static void end() {
+        endSentence();
         System.out.println(checked + " answers checked, " + wrong + " wrong");
         System.exit(wrong == 0 && checked > 0 ? 0 : 1);
     }
@@ -77,10 +110,12 @@ final class Check {
         for (int what = 13; what <= 16; what++) {
             told.append(x.count(what)).append(' ');
         }
-        for (int layer = 0; layer < x.count(0); layer++) {
+        int layers = x.count(0);
+        for (int layer = 0; layer < layers; layer++) {
             told.append('[').append(x.layerOf(layer, 0)).append(' ').append(x.layerOf(layer, 1)).append(']');
         }
-        for (int ago = 0; ago < x.count(8); ago++) {
+        int nights = x.count(8);
+        for (int ago = 0; ago < nights; ago++) {
             told.append('(');
             for (int what = 0; what <= 3; what++) {
                 told.append(x.night(ago, what)).append(' ');

@@ -4,7 +4,7 @@ import java.lang.reflect.Method;
 import java.lang.reflect.Modifier;
 import java.util.TreeSet;
 
-/** The public face, and promise 1: a new object. */
+/** The public face, with every name, modifier, parameter and exception that it tells. */
 public final class FaceTest {
     private static final String[] METHODS = {
         "int layer(int,int) IllegalArgumentException,IllegalStateException",
@@ -85,44 +85,9 @@ public final class FaceTest {
         Check.same("NONE", -99999, CloudBeams.NONE);
     }
 
-    private static void newObject() {
-        CloudBeams x = new CloudBeams();
-        int[] due = {0, 5, -5, 3, 300, 0, 0, 0, 0, 0, 0, 0, 0, 300, 100, 20, 10};
-        for (int what = 0; what < due.length; what++) {
-            Check.same("count(" + what + ") of a new object", due[what], x.count(what));
-        }
-        for (int what = 0; what <= 3; what++) {
-            Check.same("reading(" + what + ") of a new object", CloudBeams.NONE, x.reading(what));
-            Check.same("night(0, " + what + ") of a new object", CloudBeams.NONE, x.night(0, what));
-        }
-        Check.same("firstError() of a new object", 0, x.firstError());
-        Check.same("clearBuffer() of a new object", 0, x.clearBuffer());
-        Check.same("clearEnough() of a new object", 1000, x.clearEnough());
-        Check.sameFloat("meanError() of a new object", 0.0f, x.meanError());
-        Check.outOfBounds("layerOf(0, 0) of a new object", () -> x.layerOf(0, 0));
-        Check.badArgument("execute() of a new object", x::execute);
-        Check.badState("undo() of a new object", x::undo);
-        Check.badState("goBack(0) of a new object", () -> x.goBack(0));
-        Check.badState("goBack(1) of a new object", () -> x.goBack(1));
-    }
-
-    private static void objectsAreApart() {
-        CloudBeams x = new CloudBeams();
-        CloudBeams y = new CloudBeams();
-        x.layer(300, 50);
-        x.set(0, 400);
-        x.append('n');
-        x.log();
-        Check.sameText("another object's state", Check.stateOf(new CloudBeams()), Check.stateOf(y));
-        Check.same("another object's buffer", 0, y.count(12));
-        Check.same("another object's saved states", 0, y.count(11));
-    }
-
     public static void main(String[] args) {
         face();
         fields();
-        newObject();
-        objectsAreApart();
         Check.end();
     }
 }

@@ -157,9 +157,8 @@ public final class LightsTest {
 
     private static void bothWaysAgree() {
         for (int height = 50; height <= 3000; height += height < 120 ? 1 : 37) {
-            CloudBeams x = new CloudBeams();
-            x.layer(height, 10);
             for (int base = 50; base <= 1000; base += 19) {
+                CloudBeams x = Skies.with(height, 10);
                 x.set(0, base);
                 for (int slope = -30; slope <= 30; slope += 3) {
                     x.aim(0, slope);

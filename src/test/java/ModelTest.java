@@ -2,12 +2,15 @@ import java.util.Random;
 
 /** Many long runs of calls, each answer compared with the model's; the seeds are fixed, so every run is the same. */
 public final class ModelTest {
-    private static final int RUNS = 1500;
-    private static final int STEPS = 256;
+    private static final int RUNS = 2400;
+    private static final int MOST_CALLS = 512;
+    private static final int MOST_SIGNS_OF_A_TEXT = 70;
+    private static final int MOST_CALLS_OF_A_STEP = MOST_SIGNS_OF_A_TEXT + 10;
     private static final String SIGNS = "cabxn*;-0123456789";
     private static final int[] ODD = {Integer.MIN_VALUE, -1000, -31, -1, 17, 61, 127, 1001, 3001, Integer.MAX_VALUE};
 
     private static Random random;
+    private static int calls;
 
     private static int below(int bound) {
         return random.nextInt(bound);
@@ -91,19 +94,13 @@ public final class ModelTest {
         if (below(4) == 0) {
             text.setLength(below(text.length() + 1));
         }
+        text.setLength(Math.min(text.length(), MOST_SIGNS_OF_A_TEXT));
         return text.toString();
     }
 
-    private static String outcome(Check.Call call) {
-        try {
-            return String.valueOf(call.answer());
-        } catch (RuntimeException e) {
-            return e.getClass().getSimpleName();
-        }
-    }
-
     private static void both(String call, Check.Call model, Check.Call program) {
-        Check.sameText(call, outcome(model), outcome(program));
+        calls++;
+        Check.sameText(call, Check.outcome(model), Check.outcome(program));
     }
 
     private static void change(String run, Model m, CloudBeams x) {
@@ -229,6 +226,7 @@ public final class ModelTest {
                 }
                 break;
             default:
+                calls++;
                 Check.sameFloat(run + "meanError()", m.meanError(), x.meanError());
         }
     }
@@ -238,8 +236,9 @@ public final class ModelTest {
             random = new Random(run);
             Model m = new Model();
             CloudBeams x = new CloudBeams();
-            for (int call = 1; call <= STEPS; call++) {
-                String name = "run " + run + ", step " + call + ": ";
+            calls = 0;
+            for (int step = 1; calls <= MOST_CALLS - MOST_CALLS_OF_A_STEP; step++) {
+                String name = "run " + run + ", step " + step + ": ";
                 change(name, m, x);
                 ask(name, m, x);
             }
