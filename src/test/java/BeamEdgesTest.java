@@ -63,6 +63,7 @@ public final class BeamEdgesTest {
         beam("at the most", hazy(1000, 3000, 10), 0, 700, 70, 630);
         beam("beyond it between layers", hazy(1000, 50, 1, 3000, 10), 1, 696, 69, 627);
         beam("beyond it above the first layer", hazy(1000, 800, 1, 3000, 10), 1, 711, 71, 640);
+        beam("2739999843, hardly less than 274 times the divisor", hazy(953, 50, 1, 2963, 10), 1, 714, 71, 643);
     }
 
     /** A loss is at most three tenths of a strength, so a beam can't lose more; what it can have is nothing. */
@@ -142,6 +143,26 @@ public final class BeamEdgesTest {
         Check.same("count(5), one of four layers too dark", 6, x.count(5));
     }
 
+    /** The counts, the pairs and clearEnough() are held to the spots that they are of. */
+    private static void seenInHaze() {
+        Check.sentence("A spot is seen: for the counts, the pairs and the greatest haze as for the spot itself");
+        for (int haze = 0; haze <= 1000; haze += 50) {
+            for (int least = 10; least <= 60; least += 10) {
+                CloudBeams x = hazy(haze, 500, 3, 1000, 4, 1001, 5, 2000, 6, 2900, 7, 3000, 8);
+                x.set(2, least);
+                int seen = 0;
+                for (int layer = 0; layer < 6; layer++) {
+                    int isSeen = x.spot(0, layer, 2);
+                    String when = " of layer " + layer + ", haze " + haze + ", least " + least;
+                    Check.same("a pair" + when, isSeen, x.layerOf(layer, 2) == CloudBeams.NONE ? 0 : 1);
+                    seen += isSeen;
+                }
+                Check.same("count(5), haze " + haze + ", least " + least, 2 * seen, x.count(5));
+                Check.same("count(6), haze " + haze + ", least " + least, seen, x.count(6));
+            }
+        }
+    }
+
     private static void offHasNoSpots() {
         Check.sentence("Promise 18: NONE if the light is off (A beam that is off has no spots)");
         for (int light = 0; light <= 1; light++) {
@@ -151,7 +172,8 @@ public final class BeamEdgesTest {
                 for (int what = 0; what <= 4; what++) {
                     String asked = layer + ", " + what + ")";
                     Check.same("spot(off, " + asked, CloudBeams.NONE, x.spot(light, layer, what));
-                    Check.same("spot(on, " + asked, Skies.full().spot(1 - light, layer, what), x.spot(1 - light, layer, what));
+                    int due = Skies.full().spot(1 - light, layer, what);
+                    Check.same("spot(on, " + asked, due, x.spot(1 - light, layer, what));
                 }
             }
             x.turn(light);
@@ -213,6 +235,7 @@ public final class BeamEdgesTest {
         clearEnough("of one that needs the strength 1000 at 3000", Skies.with(3000, 2), 3);
         clearEnough("of one that needs the strength 1000 at 50", Skies.with(50, 2), 199);
         clearEnough("of the second of two", Skies.with(50, 50, 3000, 4), 6);
+        clearEnough("of the highest of four", Skies.with(100, 10, 200, 10, 2900, 10, 3000, 3), 299);
         CloudBeams x = Skies.with(1000, 2);
         x.set(2, 18);
         clearEnough("of one that just bears the greatest haze", x, 1000);
@@ -254,6 +277,7 @@ public final class BeamEdgesTest {
         brightness();
         atLeastSoBright();
         numberOfSeenSpots();
+        seenInHaze();
         offHasNoSpots();
         noSuchSpot();
         whatOfASpot();

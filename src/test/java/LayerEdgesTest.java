@@ -1,4 +1,4 @@
-/** Boundary cases of layers, a test for each sentence: "Terms: Layers", promises 2 to 4 and the numbers of promise 17. */
+/** Boundary cases, a test for each sentence: "Terms: Layers", promises 2 to 4 and the numbers of promise 17. */
 public final class LayerEdgesTest {
     private static final int MIN = Integer.MIN_VALUE;
     private static final int MAX = Integer.MAX_VALUE;
@@ -82,7 +82,8 @@ public final class LayerEdgesTest {
                 for (int j = 0; j < i; j++) {
                     lower += heights[j] < heights[i] ? 1 : 0;
                 }
-                Check.same("the number of the layer " + i + " in order " + code, lower, x.layer(heights[i], heights[i] - 50));
+                int number = x.layer(heights[i], heights[i] - 50);
+                Check.same("the number of the layer " + i + " in order " + code, lower, number);
             }
             Check.layers("in order " + code, x, 51, 1, 52, 2, 53, 3, 54, 4, 55, 5, 56, 6);
         }

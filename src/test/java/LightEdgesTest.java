@@ -1,4 +1,4 @@
-/** Boundary cases of lights and settings, a test for each sentence: "Terms: Lights and beams, Settings", promises 5 to 8, 22. */
+/** Boundary cases, a test for each sentence: "Terms: Lights and beams, Settings", promises 5 to 8 and 22. */
 public final class LightEdgesTest {
     private static final int MIN = Integer.MIN_VALUE;
     private static final int MAX = Integer.MAX_VALUE;
@@ -144,7 +144,7 @@ public final class LightEdgesTest {
     }
 
     private static void onOrOff() {
-        Check.sentence("Promise 6: Returns 1 if it is on then, otherwise 0; count(3): the lights that are on, as a bit mask");
+        Check.sentence("Promise 6: Returns 1 if it is on then, otherwise 0; Promise 21: 3 the lights that are on");
         int[] turned = {0, 1, 0, 1, 1, 0};
         int[] isOn = {0, 0, 1, 1, 0, 0};
         int[] mask = {2, 0, 1, 3, 1, 0};

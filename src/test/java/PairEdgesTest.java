@@ -1,4 +1,4 @@
-/** Boundary cases of pairs and readings, a test for each sentence: "Terms: Pairs", promises 17, 19, 23, counts 4, 6 and 7. */
+/** Boundary cases, a test for each sentence: "Terms: Pairs", promises 17, 19 and 23, counts 4, 6 and 7. */
 public final class PairEdgesTest {
     private static final int MIN = Integer.MIN_VALUE;
     private static final int MAX = Integer.MAX_VALUE;
@@ -128,6 +128,20 @@ public final class PairEdgesTest {
         noReading("of beams that part", x);
     }
 
+    private static void readingAtTheCloseness() {
+        Check.sentence("a close pair: at most the setting 3");
+        for (int closeness : new int[] {0, 1, 10, 99, 100}) {
+            CloudBeams x = Skies.clearAir(300 - closeness, 10);
+            int distance = x.layerOf(0, 2);
+            x.set(3, distance);
+            reading("with the distance " + distance, x, 300, 0, closeness, 0);
+            if (distance > 0) {
+                x.set(3, distance - 1);
+                noReading("with the distance " + distance + ", farther by 1", x);
+            }
+        }
+    }
+
     private static void readingNeedsLight() {
         Check.sentence("a close pair: if both are seen, and so without a light no reading");
         for (int light = 0; light <= 1; light++) {
@@ -209,7 +223,8 @@ public final class PairEdgesTest {
         reading("with one at the reading", Skies.clearAir(300, 1, 301, 10), 300, 1, -1, 1);
         reading("at its layer, with neighbours", Skies.clearAir(299, 1, 300, 10, 301, 1), 300, 1, 0, 0);
         reading("with a nearer one that is seen", flat(495, 10, 509, 10), 500, 1, -9, 1);
-        reading("with the nearest of six at last", Skies.clearAir(305, 10, 50, 1, 60, 1, 400, 1, 500, 1, 300, 1), 300, 3, -5, 1);
+        CloudBeams six = Skies.clearAir(305, 10, 50, 1, 60, 1, 400, 1, 500, 1, 300, 1);
+        reading("with the nearest of six at last", six, 300, 3, -5, 1);
     }
 
     private static void whatOfAReading() {
@@ -312,7 +327,7 @@ public final class PairEdgesTest {
     }
 
     private static void noSuchScan() {
-        Check.sentence("Promise 23: Throws IndexOutOfBoundsException, if there is no such light, or IllegalArgumentException");
+        Check.sentence("Promise 23: Throws IndexOutOfBoundsException if there is no such light; what: 0 to 3");
         CloudBeams x = Skies.with(300, 10);
         for (int what = 0; what <= 3; what++) {
             int asked = what;
@@ -332,6 +347,7 @@ public final class PairEdgesTest {
         atMostTheCloseness();
         numbersOfPairs();
         ifTheyMeetAndAPairIsClose();
+        readingAtTheCloseness();
         readingNeedsLight();
         leastDistance();
         closePairsAlone();

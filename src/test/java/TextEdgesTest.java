@@ -102,7 +102,8 @@ public final class TextEdgesTest {
 
     private static void ordersWithSemicolons() {
         Check.sentence("An order text is one or more orders with \";\" between them");
-        texts("", ";", "n", "n;", ";n", "n;;", "n;;n", "n;n", "n;n;", ";;", "nn", "n,n", "n:n", "x0;", "x0;;x0", "a;b", "c50*1;;");
+        texts("", ";", "n", "n;", ";n", "n;;", "n;;n", "n;n", "n;n;", ";;", "nn", "n,n", "n:n");
+        texts("x0;", "x0;;x0", "a;b", "c50*1;;");
         texts("a5b5", "x0x0", "c50*1c50*1", "a5n", "nx0", "n;a5;x0;b-5;c50*1", "n;a5;x0;b-5;c50*");
     }
 
@@ -179,14 +180,16 @@ public final class TextEdgesTest {
 
     private static void leadingZeros() {
         Check.sentence("Numbers have no leading zeros");
-        texts("c0", "c00", "c050", "c0050*1", "c50*0", "c50*01", "c50*00", "c50*001", "c500*010", "a0", "a00", "a01", "a05");
-        texts("a000", "a-00", "a-01", "a-05", "a-030", "b00", "b010", "b-00", "b-010", "x00", "x01", "x05", "a0;b0", "a10", "c100*10");
+        texts("c0", "c00", "c050", "c0050*1", "c50*0", "c50*01", "c50*00", "c50*001", "c500*010", "c100*10");
+        texts("a0", "a00", "a01", "a05", "a10", "a000", "a-00", "a-01", "a-05", "a-030");
+        texts("b00", "b010", "b-00", "b-010", "x00", "x01", "x05", "a0;b0");
     }
 
     private static void everySignEverywhere() {
         Check.sentence("The first error is the first character that no order text can have after the characters before it");
-        String[] befores = {"", "n", "n;", "c", "c3", "c30", "c300", "c3000", "c301", "c4", "c49", "c50", "c50*", "c50*1", "c50*10",
-            "c50*100", "c50*11", "c50*9", "a", "a-", "a0", "a-0", "a1", "a3", "a30", "a4", "b-3", "b29", "x", "x0", "x5", "x5;", "n;c", "a5;b"};
+        String[] befores = {"", "n", "n;", "c", "c3", "c30", "c300", "c3000", "c301", "c4", "c49", "c50",
+            "c50*", "c50*1", "c50*10", "c50*100", "c50*11", "c50*9", "a", "a-", "a0", "a-0", "a1", "a3", "a30", "a4",
+            "b-3", "b29", "x", "x0", "x5", "x5;", "n;c", "a5;b"};
         for (String before : befores) {
             for (char sign = 33; sign <= 126; sign++) {
                 text(before + sign);
@@ -246,7 +249,8 @@ public final class TextEdgesTest {
 
     private static void notComplete() {
         Check.sentence("Promise 13: Throws IllegalArgumentException if the buffer is not a complete order text");
-        texts("", "n;", "c", "c3", "c300", "c300*", "a", "a-", "b", "b-", "x", "n;a", "a5;b", "n;x", "n;c50", "n;c50*", "?", "n;?", "nn");
+        texts("", "n;", "c", "c3", "c300", "c300*", "a", "a-", "b", "b-", "x");
+        texts("n;a", "a5;b", "n;x", "n;c50", "n;c50*", "?", "n;?", "nn");
         CloudBeams x = Skies.typed("n;".repeat(30));
         Check.badArgument("execute() of 60 characters, not complete", x::execute);
         Check.same("count(12)", 60, x.count(12));

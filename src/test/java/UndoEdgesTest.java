@@ -1,6 +1,6 @@
 import java.util.ArrayDeque;
 
-/** Boundary cases of saved states and snapshots, a test for each sentence: "Terms: Undo and snapshots", promises 14 to 16, count 11. */
+/** Boundary cases, a test for each sentence: "Terms: Undo and snapshots", promises 14 to 16, count 11. */
 public final class UndoEdgesTest {
     private static final int MIN = Integer.MIN_VALUE;
     private static final int MAX = Integer.MAX_VALUE;
@@ -267,7 +267,7 @@ public final class UndoEdgesTest {
     }
 
     private static void slotsEmptyAtFirst() {
-        Check.sentence("There are two snapshot slots, which are empty at first; Throws IllegalStateException if the slot is empty");
+        Check.sentence("There are two snapshot slots, which are empty at first; Promise 16: if the slot is empty");
         CloudBeams x = new CloudBeams();
         Check.badState("goBack(0), empty", () -> x.goBack(0));
         Check.badState("goBack(1), empty", () -> x.goBack(1));

@@ -1,4 +1,4 @@
-/** Promises 14 to 16: undo, keep, goBack; and what each undoable call saves. */
+/** Promises 14 to 16: undo, keep, goBack. */
 public final class UndoTest {
     private static void sixStates() {
         CloudBeams x = new CloudBeams();
@@ -20,36 +20,6 @@ public final class UndoTest {
         Check.same("the slope", 1, x.count(1));
         Check.same("undo() of the first call", 0, x.undo());
         Check.same("the slope", 12, x.count(1));
-    }
-
-    private static void undone(String call, CloudBeams x, Check.Call it) {
-        String before = Check.stateOf(x);
-        int saved = x.count(11);
-        it.answer();
-        Check.same("the saved states after " + call, saved + 1, x.count(11));
-        x.undo();
-        Check.sameText("the state after " + call + " and undo()", before, Check.stateOf(x));
-        Check.same("the saved states after " + call + " and undo()", saved, x.count(11));
-    }
-
-    private static void everyUndoableCall() {
-        CloudBeams x = new CloudBeams();
-        x.layer(300, 20);
-        x.log();
-        x.keep(0);
-        x.layer(200, 10);
-        undone("layer()", x, () -> x.layer(100, 1));
-        undone("clear()", x, () -> x.clear(0));
-        undone("clearThin()", x, () -> x.clearThin(10));
-        undone("aim()", x, () -> x.aim(1, 9));
-        undone("turn()", x, () -> x.turn(0));
-        undone("set()", x, () -> x.set(1, 7));
-        undone("scan()", x, () -> x.scan(0, 0));
-        undone("log()", x, x::log);
-        Check.type(x, "n;a3");
-        undone("execute()", x, x::execute);
-        undone("goBack()", x, () -> x.goBack(0));
-        Check.same("the nights", 1, x.count(9));
     }
 
     private static void othersSaveNothing() {
@@ -123,7 +93,6 @@ public final class UndoTest {
 
     public static void main(String[] args) {
         sixStates();
-        everyUndoableCall();
         othersSaveNothing();
         snapshots();
         slotIsReplaced();

@@ -1,4 +1,4 @@
-/** Boundary cases of the class as a whole, a test for each sentence: NONE, a new object, count, and 512 calls of one object. */
+/** Boundary cases, a test for each sentence: NONE, a new object, the range of count(), 512 calls of one object. */
 public final class UseTest {
     private static final int MIN = Integer.MIN_VALUE;
     private static final int MAX = Integer.MAX_VALUE;
